@@ -881,8 +881,6 @@ public final class SleeveDarker {
         private static final int NUMBER = 2;
         private static final int WORD = 256;
         private static final int KEY_BEAR = WORD + 6;
-        private static final int KEY_SEEN = WORD + 7;
-        private static final int KEY_KEEP = WORD + 8;
         private static final int KEY_OR = WORD + 9;
         private static final int KEY_AND = WORD + 10;
         private static final int KEY_NOT = WORD + 11;
@@ -921,6 +919,7 @@ public final class SleeveDarker {
             step();
             int[] ends = new int[3];
             for (int i = 0; i < ends.length; i++) {
+                // The keys bear, seen, keep stand in WORDS in just this order.
                 need(KEY_BEAR + i);
                 readE();
                 need(';');
