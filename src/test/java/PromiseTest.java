@@ -296,6 +296,23 @@ public final class PromiseTest {
         due("tape stays", x.count(4), 6);
     }
 
+    /** Texts that fill all 160 bytes. */
+    private static void fullTape() {
+        String sound = "bear 0;seen 0;keep 0;";
+        textDue(sound + " ".repeat(139), 1);
+        textDue(sound + "a".repeat(139), -121);
+        textDue(sound + "1".repeat(139), -121);
+        textDue("bear 0;seen 0;keep 0" + "+1".repeat(69) + " ;", 1);
+        textDue("bear 0;seen 0;keep 0" + "+1".repeat(70), -260);
+        textDue("bear 0;seen 0;keep 0" + "*1".repeat(69) + "*;", -259);
+        SleeveDarker x = new SleeveDarker();
+        x.coat(0, 1, 0);
+        force(x, "bear 0;seen 0;keep 0" + "+1".repeat(69) + " ;");
+        due("keep of 69 ones", x.told(0, 5), 69);
+        due("feed beyond 160 is full", feed(x, "0".repeat(161)), -4);
+        due("text of 160 digits", x.text(), -100);
+    }
+
     private static void values() {
         valueDue("7", 7);
         valueDue("ounces", 8);
@@ -644,6 +661,43 @@ public final class PromiseTest {
         due("its order", x.most(1), 12);
     }
 
+    /** All six hanks, so that every row is full. */
+    private static void sixHanks() {
+        SleeveDarker x = withHanks(9, 50, 0, 9, 60, 1, 9, 70, 2, 9, 80, 3, 9, 90, 4, 11, 99, 8);
+        x.coat(0, 1, 10);
+        x.coat(0, 1, 20);
+        x.coat(0, 1, 40);
+        due("six: seen", x.seen(5, 0), 49);
+        due("six: range", x.range(63), 49);
+        due("six: range 64", x.range(64), -2);
+        due("six: mayMeet", x.mayMeet(0, 3, 505), 1);
+        due("six: mayMeet 0", x.mayMeet(0, 3, 0), 1);
+        due("six: judge", x.judge(0, 7775), -1);
+        due("six: ways", x.can(0, 2), 6);
+        due("six: most", x.most(0), 70);
+        due("six: order", x.most(1), 123);
+        due("six: bound", x.most(2), 70);
+        due("six: more", x.more(50), -1);
+        due("six: left", x.count(6), 56);
+        due("six: knit", x.knit(0, 7775, 0), -1);
+        due("six: bits", x.count(8), 32);
+        due("six: undo", x.undo(0), 4);
+        due("six: came back", x.hankTold(5, 0), 6);
+        due("six: image", x.image(), 0);
+        due("six: back", x.back(), 0);
+        for (int hank = 1; hank < 6; hank++) {
+            x.ounces(hank, 0);
+        }
+        due("bound of just all ounces", x.most(2), 70);
+        x.ounces(0, 8);
+        due("bound of one ounce less", x.most(2), 0);
+        due("six: more of the last brings like", x.more(9), 0);
+        due("six: more 19 of hank 0 alone brings all three", x.more(19), 0);
+        x.ounces(0, 0);
+        x.ounces(5, 8);
+        due("six: more of the last", x.more(1), 5);
+    }
+
     // Promise 20
     private static void more() {
         SleeveDarker x = withHanks(5, 50, 0, 8, 90, 0, 8, 70, 0);
@@ -911,6 +965,7 @@ public final class PromiseTest {
         hankTold();
         feeding();
         reading();
+        fullTape();
         values();
         forcing();
         seen();
@@ -923,6 +978,7 @@ public final class PromiseTest {
         knit();
         undo();
         most();
+        sixHanks();
         more();
         late();
         imageAndBack();
