@@ -56,7 +56,7 @@ public final class SleeveDarker {
     private int ruleNumber;
 
     private final Cutter cutter = new Cutter();
-    private final Planner planner = new Planner(coats, wool, cutter);
+    private final Planner planner = new Planner();
 
     private boolean imageKept;
     private int imageCoats;
@@ -117,7 +117,7 @@ public final class SleeveDarker {
             return asked.takes(what - 10);
         }
         if (isWithin(what, 20, 19 + MEETINGS)) {
-            return bearsInAll(asked, what - 20, rule);
+            return rule.bearsInAll(asked, what - 20);
         }
         switch (what) {
             case 0: return asked.kind;
@@ -290,9 +290,9 @@ public final class SleeveDarker {
             return BAD;
         }
         if (what == 2) {
-            return planner.bound();
+            return planner.bound(coats, wool.ouncesInAll());
         }
-        planner.plan(rule, NONE, 0);
+        planner.plan(coats, rule, wool, NONE, 0);
         return what == 0 ? planner.bestValue : planner.bestOrder;
     }
 
@@ -300,11 +300,11 @@ public final class SleeveDarker {
         if (!isWithin(n, 1, MAX_MORE)) {
             return BAD;
         }
-        planner.plan(rule, NONE, 0);
+        planner.plan(coats, rule, wool, NONE, 0);
         int value = planner.bestValue;
         int found = NONE;
         for (int hank = 0; hank < wool.size; hank++) {
-            planner.plan(rule, hank, n);
+            planner.plan(coats, rule, wool, hank, n);
             if (planner.bestValue > value) {
                 value = planner.bestValue;
                 found = hank;
@@ -476,10 +476,6 @@ public final class SleeveDarker {
     /** The hank that a parting (0 .. 7775) names for a part. */
     private static int hankOf(int parting, int part) {
         return parting / DIGIT_WEIGHT[part] % MAX_HANKS;
-    }
-
-    private static int bearsInAll(Coat coat, int meeting, Text rule) {
-        return coat.bears(meeting) + rule.bearMore(coat, meeting);
     }
 
     private static Coat newCoat(int kind, int size, int rest) {
@@ -798,10 +794,12 @@ public final class SleeveDarker {
             return clamp(valueOf(SEEN), MAX_SEEN);
         }
 
-        int bearMore(Coat coat, int meeting) {
+        /** What a meeting bears by its coat, and by this text besides. */
+        int bearsInAll(Coat coat, int meeting) {
             int both = coat.takes(LOWER_PART[meeting]) + coat.takes(HIGHER_PART[meeting]);
-            nameNumbers(both, coat.bears(meeting), coat.size, coat.number, 0, meeting);
-            return clamp(valueOf(BEAR), MAX_BEAR);
+            int bears = coat.bears(meeting);
+            nameNumbers(both, bears, coat.size, coat.number, 0, meeting);
+            return bears + clamp(valueOf(BEAR), MAX_BEAR);
         }
 
         int keepBy(Coat coat) {
@@ -839,7 +837,7 @@ public final class SleeveDarker {
             if (step == Reader.NEGATE) {
                 return -value;
             }
-            return truth(value == 0);
+            return value == 0 ? 1 : 0;
         }
 
         private static int ofTwo(int step, int one, int other) {
@@ -847,15 +845,11 @@ public final class SleeveDarker {
                 case Reader.TIMES: return one * other;
                 case Reader.PLUS: return one + other;
                 case Reader.MINUS: return one - other;
-                case Reader.LESS: return truth(one < other);
-                case Reader.SAME: return truth(one == other);
-                case Reader.BOTH: return truth(one != 0 && other != 0);
-                default: return truth(one != 0 || other != 0);
+                case Reader.LESS: return one < other ? 1 : 0;
+                case Reader.SAME: return one == other ? 1 : 0;
+                case Reader.BOTH: return one != 0 && other != 0 ? 1 : 0;
+                default: return one != 0 || other != 0 ? 1 : 0;
             }
-        }
-
-        private static int truth(boolean holds) {
-            return holds ? 1 : 0;
         }
     }
 
@@ -1052,35 +1046,36 @@ public final class SleeveDarker {
         /** Goes on to the next token. */
         private void step() {
             tokenStart = tokenEnd;
-            while (tokenStart < tapeSize && isBlank(byteAt(tokenStart))) {
+            while (tokenStart < tapeSize && isBlank(tape[tokenStart])) {
                 tokenStart++;
             }
             tokenEnd = tokenStart + 1;
             if (tokenStart >= tapeSize) {
                 token = END;
                 tokenEnd = tapeSize;
-            } else if (isDigit(byteAt(tokenStart))) {
+            } else if (isDigit(tape[tokenStart])) {
                 takeNumber();
-            } else if (isLetter(byteAt(tokenStart))) {
+            } else if (isLetter(tape[tokenStart])) {
                 takeWord();
             } else {
-                token = SIGNS.indexOf((char) byteAt(tokenStart)) >= 0 ? byteAt(tokenStart) : BROKEN;
+                int sign = tape[tokenStart] & 255;
+                token = SIGNS.indexOf((char) sign) >= 0 ? sign : BROKEN;
             }
         }
 
         private void takeNumber() {
-            while (tokenEnd < tapeSize && isDigit(byteAt(tokenEnd))) {
+            while (tokenEnd < tapeSize && isDigit(tape[tokenEnd])) {
                 tokenEnd++;
             }
             number = 0;
             for (int i = tokenStart; i < tokenEnd; i++) {
-                number = number * 10 + byteAt(i) - '0';
+                number = number * 10 + tape[i] - '0';
             }
             token = tokenEnd - tokenStart <= MAX_DIGITS ? NUMBER : BROKEN;
         }
 
         private void takeWord() {
-            while (tokenEnd < tapeSize && isLetter(byteAt(tokenEnd))) {
+            while (tokenEnd < tapeSize && isLetter(tape[tokenEnd])) {
                 tokenEnd++;
             }
             token = BROKEN;
@@ -1103,15 +1098,11 @@ public final class SleeveDarker {
                 return false;
             }
             for (int i = start; i < end; i++) {
-                if (WORDS.charAt(i) != byteAt(tokenStart + i - start)) {
+                if (WORDS.charAt(i) != tape[tokenStart + i - start]) {
                     return false;
                 }
             }
             return true;
-        }
-
-        private int byteAt(int place) {
-            return tape[place] & 255;
         }
 
         private static boolean isBlank(int sign) {
@@ -1119,11 +1110,11 @@ public final class SleeveDarker {
         }
 
         private static boolean isDigit(int sign) {
-            return isWithin(sign, '0', '9');
+            return sign >= '0' && sign <= '9';
         }
 
         private static boolean isLetter(int sign) {
-            return isWithin(sign, 'a', 'z');
+            return sign >= 'a' && sign <= 'z';
         }
     }
 
@@ -1149,7 +1140,7 @@ public final class SleeveDarker {
                 takes[part] = coat.takes(part);
             }
             for (int meeting = 0; meeting < MEETINGS; meeting++) {
-                bears[meeting] = bearsInAll(coat, meeting, rule);
+                bears[meeting] = rule.bearsInAll(coat, meeting);
             }
             for (int a = 0; a < hankCount; a++) {
                 have[a] = ounces[a];
@@ -1253,19 +1244,13 @@ public final class SleeveDarker {
         int bestOrder;
 
         private int bestLength;
-        private final Coat[] coats;
-        private final Wool wool;
-        private final Cutter cutter;
+        private final Cutter cutter = new Cutter();
+        private final Coat[] open = new Coat[PLANNED];
         private final int[][] ounces = new int[PLANNED + 1][MAX_HANKS];
 
-        Planner(Coat[] coats, Wool wool, Cutter cutter) {
-            this.coats = coats;
-            this.wool = wool;
-            this.cutter = cutter;
-        }
-
         /** With n ounces more of one hank; hank NONE: with what is there. */
-        void plan(Text rule, int hank, int n) {
+        void plan(Coat[] coats, Text rule, Wool wool, int hank, int n) {
+            keepOpen(coats);
             bestValue = 0;
             bestOrder = 0;
             bestLength = 0;
@@ -1273,22 +1258,33 @@ public final class SleeveDarker {
             if (wool.has(hank)) {
                 ounces[0][hank] += n;
             }
-            goOn(rule, 0, 0, 0, 0);
+            goOn(rule, wool, 0, 0, 0, 0);
         }
 
-        int bound() {
+        int bound(Coat[] coats, int ouncesInAll) {
+            keepOpen(coats);
             int all = 0;
-            for (int i = 0; i < PLANNED; i++) {
-                Coat coat = coats[i];
-                if (coat != null && !coat.done && coat.brings() > 0 && coat.takesInAll() <= wool.ouncesInAll()) {
+            for (Coat coat : open) {
+                if (coat != null && coat.brings() > 0 && coat.takesInAll() <= ouncesInAll) {
                     all += coat.brings();
                 }
             }
             return all;
         }
 
-        /** Weighs an order of so many coats (bits: which) and all that begin with it. */
-        private void goOn(Text rule, int length, int bits, int order, int value) {
+        /** Of the first coats those that aren't done; null for the others. */
+        private void keepOpen(Coat[] coats) {
+            for (int i = 0; i < PLANNED; i++) {
+                Coat coat = i < coats.length ? coats[i] : null;
+                open[i] = coat != null && !coat.done ? coat : null;
+            }
+        }
+
+        /**
+         * Weighs an order of so many coats (bits: which) and all that begin with it. Coats that bring
+         * nothing are tried too: two hanks that have fewer ounces then may be seen less far apart.
+         */
+        private void goOn(Text rule, Wool wool, int length, int bits, int order, int value) {
             if (isBetter(length, order, value)) {
                 bestValue = value;
                 bestOrder = order;
@@ -1298,9 +1294,16 @@ public final class SleeveDarker {
                 return;
             }
             for (int i = 0; i < PLANNED; i++) {
-                Coat coat = coats[i];
-                if (coat != null && !coat.done && !hasBit(bits, i) && knitNext(rule, coat, length)) {
-                    goOn(rule, length + 1, bits | 1 << i, order * 10 + i + 1, value + coat.brings());
+                Coat coat = open[i];
+                if (coat == null || hasBit(bits, i)) {
+                    continue;
+                }
+                cutter.layOut(coat, rule, wool, ounces[length]);
+                cutter.findBest(false);
+                if (cutter.best != NONE) {
+                    System.arraycopy(ounces[length], 0, ounces[length + 1], 0, MAX_HANKS);
+                    cutter.takeAway(cutter.best, ounces[length + 1]);
+                    goOn(rule, wool, length + 1, bits | 1 << i, order * 10 + i + 1, value + coat.brings());
                 }
             }
         }
@@ -1310,18 +1313,6 @@ public final class SleeveDarker {
                 return value > bestValue;
             }
             return length < bestLength || length == bestLength && order < bestOrder;
-        }
-
-        /** Leaves the ounces behind a coat, if it can be knitted, in the row of the next length. */
-        private boolean knitNext(Text rule, Coat coat, int length) {
-            cutter.layOut(coat, rule, wool, ounces[length]);
-            cutter.findBest(false);
-            if (cutter.best == NONE) {
-                return false;
-            }
-            System.arraycopy(ounces[length], 0, ounces[length + 1], 0, MAX_HANKS);
-            cutter.takeAway(cutter.best, ounces[length + 1]);
-            return true;
         }
     }
 }
