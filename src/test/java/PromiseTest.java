@@ -1,73 +1,5 @@
 /** For each promise of the document: ordinary calls, the edges that it names, and wrong calls. */
-public final class PromiseTest {
-    private static final int LOW = Integer.MIN_VALUE;
-    private static final int HIGH = Integer.MAX_VALUE;
-    private static int wrong = 0;
-
-    private static void due(String call, long got, long want) {
-        if (got != want) {
-            wrong++;
-            System.out.println(call + " answered " + got + ", due is " + want);
-        }
-    }
-
-    /** Feeds a text in pieces of up to 8 bytes and answers what the last feed() did. */
-    private static int feed(SleeveDarker x, String text) {
-        int answer = 0;
-        for (int at = 0; at < text.length(); at += 8) {
-            int n = Math.min(8, text.length() - at);
-            long bytes = 0;
-            for (int i = n - 1; i >= 0; i--) {
-                bytes = bytes << 8 | text.charAt(at + i);
-            }
-            answer = x.feed(n, bytes);
-        }
-        return answer;
-    }
-
-    private static int text(SleeveDarker x, String text) {
-        feed(x, text);
-        return x.text();
-    }
-
-    private static void force(SleeveDarker x, String text) {
-        int number = text(x, text);
-        if (number < 0) {
-            due("text \"" + text + "\"", number, 1);
-        }
-        x.force(number);
-    }
-
-    /** What the text answers on a new object. */
-    private static void textDue(String text, long want) {
-        due("text \"" + text + "\"", text(new SleeveDarker(), text), want);
-    }
-
-    private static void faultDue(String bear, int placeInBear) {
-        String text = "bear " + bear + ";seen 0;keep 0;";
-        textDue(text, -100 - 5 - placeInBear);
-    }
-
-    /** The value of an E with size 3, worn 4, ounces 8 (both sleeves), told by bear (0 .. 99). */
-    private static void valueDue(String e, int want) {
-        SleeveDarker x = new SleeveDarker();
-        x.coat(0, 3, 4000);
-        force(x, "bear " + e + ";seen 0;keep 0;");
-        due("bear " + e, x.told(0, 20), want);
-    }
-
-    private static int parting(int p0, int p1, int p2, int p3, int p4) {
-        return (((p0 * 6 + p1) * 6 + p2) * 6 + p3) * 6 + p4;
-    }
-
-    private static SleeveDarker withHanks(int... ouncesShadeVat) {
-        SleeveDarker x = new SleeveDarker();
-        for (int i = 0; i < ouncesShadeVat.length; i += 3) {
-            x.hank(ouncesShadeVat[i], ouncesShadeVat[i + 1], ouncesShadeVat[i + 2]);
-        }
-        return x;
-    }
-
+public final class PromiseTest extends Calls {
     // Promise 1
     private static void newObject() {
         SleeveDarker x = new SleeveDarker();
@@ -988,9 +920,6 @@ public final class PromiseTest {
         copy();
         hanks();
         taken();
-        System.out.println(wrong == 0 ? "all answers are as due" : wrong + " answers are not as due");
-        if (wrong != 0) {
-            System.exit(1);
-        }
+        end();
     }
 }
