@@ -214,6 +214,7 @@ public final class CoatBoundsTest extends Calls {
         bearDue(4, 7000, "worn", 7, 7, 7, 7, 7, 7);
         bearDue(5, 20000, "worn", 20, 20, 20, 20, 20, 20);
         bearDue(4, 7000, "faded", 0, 0, 0, 0, 0, 0);
+        bearDue(4, 7000, "faded+9", 9, 9, 9, 9, 9, 9);
         bearDue(4, 7000, "vat", 0, 1, 2, 3, 4, 5);
         // Each part by itself: sleeves 4, 4, front nothing, back 6, collar nothing.
         SleeveDarker x = ofOne(3, 3, 20000);
@@ -262,6 +263,9 @@ public final class CoatBoundsTest extends Calls {
         keepDue(4, 9, 20000, "worn", 20);
         keepDue(4, 9, 20000, "faded", 0);
         keepDue(4, 9, 20000, "vat", 0);
+        keepDue(4, 9, 20000, "apart+5", 5);
+        keepDue(4, 9, 20000, "faded+6", 6);
+        keepDue(4, 9, 20000, "vat+7", 7);
     }
 
     // "TEXT 0, at first THE RULE, is: bear 0 ; seen apart ; keep size ;"

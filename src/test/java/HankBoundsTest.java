@@ -244,6 +244,10 @@ public final class HankBoundsTest extends Calls {
         due("vat of 1", x.seen(1, 2), 0);
         due("vat of 1, turned", x.seen(2, 1), 0);
         due("vat of 2, turned", x.seen(3, 2), 8);
+        x = withHanks(99, 99, 8, 99, 0, 0, 0, 0, 8);
+        force(x, "bear 0;seen faded*5+10;keep 0;");
+        due("unlike vats and 10", x.seen(0, 1), 15);
+        due("like vats and 10", x.seen(0, 2), 10);
     }
 
     // The ounces of the moment are seen, above 99 also; shades as faded

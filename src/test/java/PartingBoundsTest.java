@@ -240,6 +240,24 @@ public final class PartingBoundsTest extends Calls {
         canDue("3 to the 5th", withCoat(x, 0, 1, 0), 0, 0, 243);
     }
 
+    // Two hanks that may meet at all meetings but one are parted in 32 ways, less those that are unlike there
+    private static void canAtEachMeeting() {
+        int[] bears = {0, 2, 2, 4, 4, 4};
+        for (int meeting = 0; meeting < 6; meeting++) {
+            SleeveDarker x = withCoat(withHanks(99, 50, 0, 99, 50 + bears[meeting], 0), 0, 1, 0);
+            force(x, "bear (1-(vat=" + meeting + "))*99;seen apart;keep 0;");
+            canDue("just as far at " + meeting, x, 0, 0, 32);
+            x = withCoat(withHanks(99, 50, 0, 99, 51 + bears[meeting], 0), 0, 1, 0);
+            force(x, "bear (1-(vat=" + meeting + "))*99;seen apart;keep 0;");
+            canDue("one farther at " + meeting, x, 0, 0, 16);
+        }
+        canDue("1 apart", withCoat(withHanks(99, 50, 0, 99, 51, 0), 0, 1, 0), 0, 0, 16);
+        canDue("2 apart", withCoat(withHanks(99, 50, 0, 99, 52, 0), 0, 1, 0), 0, 0, 16);
+        canDue("3 apart", withCoat(withHanks(99, 50, 0, 99, 53, 0), 0, 1, 0), 0, 0, 8);
+        canDue("4 apart", withCoat(withHanks(99, 50, 0, 99, 54, 0), 0, 1, 0), 0, 0, 8);
+        canDue("5 apart", withCoat(withHanks(99, 50, 0, 99, 55, 0), 0, 1, 0), 0, 0, 2);
+    }
+
     // "CAN (of DONE ones, too)"; it changes nothing
     private static void canOfDone() {
         SleeveDarker x = some();
@@ -284,6 +302,10 @@ public final class PartingBoundsTest extends Calls {
     private static void days() {
         due("knit on day 0", withCoat(withHanks(9, 50, 0), 0, 1, 0).knit(0, 0, 0), NONE);
         due("knit on day 99", withCoat(withHanks(9, 50, 0), 0, 1, 0).knit(0, 0, 99), NONE);
+        for (int day : new int[] {-1, 100, LOW, HIGH}) {
+            refused("knit on " + day + " while none is done", () -> withCoat(withHanks(9, 50, 0), 0, 1, 0), BAD,
+                    x -> x.knit(0, 0, day));
+        }
         due("knit on the same day", some().knit(0, 0, 5), NONE);
         due("knit a day later", some().knit(0, 0, 6), NONE);
         due("knit a day ahead", some().knit(0, 0, 4), BAD);
@@ -397,6 +419,7 @@ public final class PartingBoundsTest extends Calls {
         bitsTogether();
         bitsOfUsedHanks();
         firstAndHowMany();
+        canAtEachMeeting();
         canOfDone();
         knitRefused();
         knitWrong();

@@ -137,6 +137,15 @@ public final class PlanBoundsTest extends Calls {
         mostDue("nine by the hank of nine first", x, 4, 12, 4);
         x.ounces(0, 8);
         mostDue("one hank for two", x, 3, 2, 4);
+        // Hanks of 10 and 11 leave bits, that of 9 none: it is taken first, and leaves them to those that take 10 and 11.
+        int[] ten = {3, 2, 20001};
+        int[] eleven = {3, 2, 4001};
+        x = with(withHanks(10, 0, 0, 9, 60, 0), NINE, ten);
+        mostDue("the last without bits", x, 2, 12, 2);
+        x = with(withHanks(11, 0, 0, 9, 60, 0), NINE, eleven);
+        mostDue("the last without bits", x, 2, 12, 2);
+        x = with(withHanks(11, 0, 0, 10, 30, 0, 9, 60, 0), NINE, ten, eleven);
+        mostDue("the last of three without bits", x, 3, 123, 3);
         // Both may meet while 22 are there, and by this rule no more when 9 are gone.
         x = with(withHanks(14, 50, 0, 8, 90, 0), NINE, NINE, NINE);
         force(x, "bear 0;seen (ounces<22)*9;keep 0;");

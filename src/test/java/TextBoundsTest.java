@@ -129,6 +129,20 @@ public final class TextBoundsTest extends Calls {
             }
             textDue(text.substring(0, size), -100 - place);
         }
+        textDue("1".repeat(160), -100);
+        textDue("a".repeat(160), -100);
+        textDue("bear 0;seen 0;keep " + " ".repeat(137) + "9999", -260);
+        textDue("bear 0;seen 0;keep " + " ".repeat(137) + "size", -260);
+        textDue("bear 0;seen 0;keep " + " ".repeat(136) + "99999", -255);
+        textDue("bear 0;seen 0;keep " + " ".repeat(136) + "sizes", -255);
+        // What stood on the tape before is no part of it.
+        SleeveDarker x = new SleeveDarker();
+        text(x, "bear 9999999999");
+        due("two digits of ten", text(x, "bear 99"), -107);
+        text(x, "bear sizesizesize");
+        due("one word of three", text(x, "bear size"), -109);
+        text(x, "bear 0;seen 0;keep 0;");
+        due("all but the last sign", text(x, "bear 0;seen 0;keep 0"), -120);
         textDue("\n \n", -103);
         textDue("bear not", -108);
         textDue("bear -", -106);
@@ -215,6 +229,19 @@ public final class TextBoundsTest extends Calls {
         }
         for (String key : new String[] {"bear", "seen", "keep", "not"}) {
             faultDue("1 " + key + " 1", 2);
+        }
+        // A word that is none doesn't stand for what was ahead of it.
+        for (String word : new String[] {"x", "sizes", "bears", "ands"}) {
+            faultDue("-" + word + " 1", 1);
+            faultDue("(" + word + " 1)", 1);
+            faultDue("not " + word + " 1", 4);
+            faultDue("1 and " + word + " 1", 6);
+            faultDue("1 or " + word, 5);
+            faultDue("1+" + word + " 1", 2);
+            faultDue("size " + word, 5);
+            faultDue("1 " + word + " 1", 2);
+            textDue("bear 0;" + word + " seen 0;keep 0;", -107);
+            textDue("bear 0;seen 0;" + word + " keep 0;", -114);
         }
         textDue("ounces 0;", -100);
         textDue("not 0;", -100);
@@ -494,6 +521,28 @@ public final class TextBoundsTest extends Calls {
         due("keep of the rule", x.told(0, 5), 8);
     }
 
+    /** Five texts of some 160 bytes on one object, each of as many values as can be. */
+    private static void fullTexts() {
+        SleeveDarker x = new SleeveDarker();
+        x.coat(0, 4, 0);
+        x.hank(0, 0, 0);
+        x.hank(0, 0, 0);
+        String[] texts = {"bear 1" + "+1".repeat(68) + ";seen 1;keep 1 ;", "bear 2;seen 2" + "+1".repeat(69) + ";keep 2;",
+            "bear 3;seen 3;keep 3" + "+1".repeat(69) + " ;", "bear (((4)))" + "+-1".repeat(44) + ";seen 4;keep 4;",
+            "bear size" + "-0".repeat(30) + ";seen 5" + "*1".repeat(30) + ";keep ounces+1;   "};
+        int[][] due = {{69, 1, 1}, {2, 71, 2}, {3, 3, 72}, {0, 4, 4}, {4, 5, 28}};
+        for (int i = 0; i < texts.length; i++) {
+            due("bytes of text " + (i + 1), feed(x, texts[i]), texts[i].length());
+            due("text", x.text(), i + 1);
+        }
+        for (int i = 0; i < texts.length; i++) {
+            x.force(i + 1);
+            due("bear of " + texts[i], x.told(0, 20), due[i][0]);
+            due("seen of " + texts[i], x.seen(0, 1), due[i][1]);
+            due("keep of " + texts[i], x.told(0, 5), due[i][2]);
+        }
+    }
+
     public static void main(String[] args) {
         feedRefused();
         lowestBytes();
@@ -512,6 +561,7 @@ public final class TextBoundsTest extends Calls {
         binding();
         forceRefused();
         textsStay();
+        fullTexts();
         end();
     }
 }
