@@ -10,7 +10,9 @@ import java.util.regex.Pattern;
  */
 public final class ModelTest {
     private static final int RUNS = 200;
-    private static final int CALLS = 160;
+    private static final int STEPS = 160;
+    /** Behind its 512th call an object answers freely, and the longest step has some 40. */
+    private static final int CALLS = 470;
 
     /** A text is read straight from its bytes: a value, or the place of its fault. */
     private static final class Plain {
@@ -358,6 +360,7 @@ public final class ModelTest {
     private final Random random = new Random(20261118);
     private final StringBuilder told = new StringBuilder();
     private int wrong;
+    private int calls;
     private SleeveDarker x;
     private Model m;
 
@@ -371,6 +374,7 @@ public final class ModelTest {
     }
 
     private void due(String call, int got, int want) {
+        calls++;
         told.append(call).append(" = ").append(want).append('\n');
         if (got != want) {
             wrong++;
@@ -730,8 +734,9 @@ public final class ModelTest {
             x = new SleeveDarker();
             m = new Model();
             told.setLength(0);
+            calls = 0;
             setUp();
-            for (int call = 0; call < CALLS && wrong == 0; call++) {
+            for (int step = 0; step < STEPS && calls < CALLS && wrong == 0; step++) {
                 oneCall();
             }
         }
